@@ -164,6 +164,11 @@ final class BuildingTest {
         Check.dueThrow("a gate is no bus", INDEX, () -> x.addOpen(4, 0, 0, 0));
         Check.due("the second bus reads the gate of the first", x.addOpen(3, 4, 0, 0), 1);
         Check.dueThrow("a ring over both buses", UNSUPPORTED, () -> x.addOpen(2, 0, 3, 0));
+        x.addGate('^', 0, 4, 0);
+        Check.dueThrow("a ring by a gate's second net", UNSUPPORTED, () -> x.addOpen(2, 0, 5, 0));
+        x.addBus();
+        x.addOpen(6, 0, 3, 0);
+        Check.dueThrow("a ring by an opener", UNSUPPORTED, () -> x.addOpen(2, 6, 0, 0));
         x.connect(1, 3);
         Check.due("a register parts a ring", x.addOpen(2, 1, 0, 0), 1);
         x.addOpen(2, 0, 0, 0);
@@ -223,13 +228,14 @@ final class BuildingTest {
     }
 
     private static void buildingStartsAnew() {
-        for (int way = 0; way < 6; way++) {
+        for (int way = 0; way < 7; way++) {
             Deltacycle x = new Deltacycle();
             x.addInput();
             x.addRegister();
             x.addGate('~', 0, 0, 2);
             x.addBus();
             x.addGate('|', 0, 3, 0);
+            x.connect(1, 3);
             x.reset(1, '1');
             x.setInput(0, '1');
             x.pass(1);
@@ -254,7 +260,8 @@ final class BuildingTest {
             case 2 -> x.addBus();
             case 3 -> x.addGate('=', 0, 0, 0);
             case 4 -> x.addOpen(3, 0, 1, 3);
-            default -> x.connect(1, 4);
+            case 5 -> x.connect(1, 4);
+            default -> Check.due("connected as before", x.connect(1, 3), 3);
         }
     }
 

@@ -14,18 +14,27 @@ final class Check {
         }
     }
 
-    /** The very class is asked for: the machine's own exceptions are below those that the document names. */
+    /**
+     * What was thrown, told so that the machine's and the library's own exceptions differ from those that
+     * the program throws itself: by the very class, and by whether a class of the project threw it.
+     */
+    static String thrown(RuntimeException e) {
+        StackTraceElement[] calls = e.getStackTrace();
+        String by = calls.length == 0 ? "the machine" : calls[0].getClassName();
+        return e.getClass().getName() + (by.matches("(Deltacycle|Model)\\b.*") ? "" : " by " + by);
+    }
+
     static void dueThrow(String call, Class<? extends RuntimeException> want, Runnable run) {
         checked++;
-        Class<?> got = null;
+        String got = "nothing";
         try {
             run.run();
         } catch (RuntimeException e) {
-            got = e.getClass();
+            got = thrown(e);
         }
-        if (got != want) {
+        if (!got.equals(want.getName())) {
             wrong++;
-            System.out.println(call + " threw " + got + ", due is " + want);
+            System.out.println(call + " threw " + got + ", due is " + want.getName());
         }
     }
 

@@ -38,6 +38,8 @@ final class DelaysTest {
         x.addOpen(4, 3, 0, 0);
         Check.due("a bus by the latest", x.arrival(4), 12);
         Check.due("behind it", x.arrival(5), 14);
+        x.addOpen(4, 0, 0, 1);
+        Check.due("a bus by the latest, not the last", x.arrival(4), 12);
         x.connect(1, 5);
         Check.due("a register still", x.arrival(1), 0);
         Check.dueThrow("arrival(6)", INDEX, () -> x.arrival(6));
