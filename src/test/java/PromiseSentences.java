@@ -319,7 +319,7 @@ final class PromiseSentences {
         Check.due("the one before stays", x.lastChange(1), 9);
     }
 
-    /** 39 gates and 39 open gates cannot be had; each bus of 19 has four open gates here, and 12 nets are gates. */
+    /** Of 40 nets 8 are inputs, 20 buses with four open gates each, and 12 gates. */
     private void pending() {
         says(16, "Returns from how many gates and open gates something is to come.", "Returns their number.");
         Deltacycle x = Benches.withBuses(Benches.ofInputs(8), 20);
