@@ -8,17 +8,22 @@ import java.util.TreeMap;
 import java.util.TreeSet;
 
 /**
- * The sentences of ../shared/DOC.md, so that a test can quote the one that it tries: what is quoted must
- * stand there word by word, and in the end each sentence must have been quoted. Where the document itself
- * is not to be found, this alone is left out.
+ * The sentences of ../shared/DOC.md and the lines of its face, so that a test can quote the one that it tries:
+ * what is quoted must stand there word by word, and in the end each sentence must have been quoted. Where the
+ * document itself is not to be found, this alone is left out.
  */
 final class Document {
     private static final Path FILE = Path.of("../shared/DOC.md");
 
-    /** The number under which the section "Terms" is kept; the promises have their own numbers. */
+    /** The numbers under which sections are kept that are no promises; the promises have their own numbers. */
     static final int TERMS = 0;
 
-    private static final int NO_SECTION = -1;
+    static final int WHAT_IT_IS = 101;
+    static final int FACE = 102;
+    static final int NOT_PROMISED = 103;
+
+    /** What stands under any other heading is kept, too, so that it is missed in the end. */
+    private static final int OTHER = 104;
 
     /** "Inputs and clocks." is the longest of the words that stand ahead of a paragraph as its title. */
     private static final int MOST_WORDS_OF_TITLE = 3;
@@ -32,37 +37,55 @@ final class Document {
             System.out.println(FILE + " is not there: quotations are not compared");
             return;
         }
-        int section = NO_SECTION;
+        int section = OTHER;
         StringBuilder paragraph = new StringBuilder();
         for (String line : Files.readAllLines(FILE)) {
             boolean isHeading = line.startsWith("#");
-            if (isHeading || line.isBlank() || line.startsWith("- ")) {
+            boolean isOfItsOwn = isHeading || section == FACE || line.isBlank() || line.startsWith("- ");
+            if (isOfItsOwn) {
                 keep(section, paragraph.toString().trim());
                 paragraph.setLength(0);
             }
             section = isHeading ? sectionOf(line) : section;
-            paragraph.append(isHeading ? "" : line.trim() + " ");
+            paragraph.append(isHeading || line.startsWith("```") ? "" : line.trim() + " ");
         }
         keep(section, paragraph.toString().trim());
     }
 
     private static int sectionOf(String heading) {
-        if (heading.equals("## Terms")) {
-            return TERMS;
+        switch (heading) {
+            case "## What it is":
+                return WHAT_IT_IS;
+            case "## The public face":
+                return FACE;
+            case "## Terms":
+                return TERMS;
+            case "## Not promised":
+                return NOT_PROMISED;
+            default:
+                String promise = "## Promise (\\d+): .*";
+                return heading.matches(promise) ? Integer.parseInt(heading.replaceAll(promise, "$1")) : OTHER;
         }
-        return heading.matches("## Promise \\d+:.*") ? Integer.parseInt(heading.replaceAll("\\D+(\\d+).*", "$1")) : NO_SECTION;
     }
 
+    /** A promise's first paragraph begins with its signature, which is kept by itself. */
     private void keep(int section, String paragraph) {
-        boolean isAboutTheFace = paragraph.startsWith("Ahead of the calls");
-        if (section == NO_SECTION || paragraph.isEmpty() || isAboutTheFace) {
+        if (paragraph.isEmpty()) {
             return;
         }
         List<String> kept = sentences.computeIfAbsent(section, none -> new ArrayList<>());
-        if (section != TERMS) {
-            kept.add(paragraph.replaceFirst("^`[^`]*\\([^`]*`: ", "").replaceFirst("^- ", ""));
-            return;
+        if (section == FACE) {
+            kept.add(paragraph);
+        } else if (paragraph.startsWith("Ahead of the calls")) {
+            sentences.computeIfAbsent(FACE, none -> new ArrayList<>()).add(paragraph);
+        } else if (section < WHAT_IT_IS && section != TERMS) {
+            kept.addAll(List.of(paragraph.replaceFirst("^- ", "").replaceFirst("^(`[^`]*\\([^`]*`): ", "$1\n").split("\n")));
+        } else {
+            keepSentences(kept, paragraph);
         }
+    }
+
+    private static void keepSentences(List<String> kept, String paragraph) {
         for (String sentence : paragraph.split("(?<=\\.)\\s+")) {
             if (sentence.split(" ").length > MOST_WORDS_OF_TITLE) {
                 kept.add(sentence);

@@ -40,7 +40,6 @@ final class PromiseSentences {
         knownShare();
         meanArrival();
         isSound();
-        mostCalls();
     }
 
     private void says(int promise, String... sentences) {
@@ -585,19 +584,5 @@ final class PromiseSentences {
         }
         Check.due("without nets", new Deltacycle().isSound(), true);
         Check.due("with 40 nets", Benches.chain('^', 9).isSound(), true);
-    }
-
-    /** The document's "What it is" promises answers for 512 calls; here they are the dearest ones of a full bench. */
-    private void mostCalls() {
-        Deltacycle x = Benches.ofInputs(Benches.MOST_SOURCES);
-        int calls = Benches.MOST_SOURCES;
-        for (int net = Benches.MOST_SOURCES; net < Benches.MOST_NETS; net++) {
-            x.addGate(net % 2 == 0 ? '^' : '|', net - 1, net - 8, 9);
-            calls++;
-        }
-        while (calls < 512) {
-            Check.due("call " + calls, x.isSound(), true);
-            calls++;
-        }
     }
 }

@@ -1,9 +1,10 @@
 import java.io.IOException;
 
-/** The document sentence by sentence: each of "Terms" and of the promises is quoted by what tries it. */
+/** The document sentence by sentence: from its first to its last, each is quoted by what tries it. */
 final class SentenceTest {
     public static void main(String[] args) throws IOException {
         Document document = new Document();
+        new FaceSentences(document).check();
         new TermSentences(document).check();
         new PromiseSentences(document).check();
         new Refusals(document).check();
